@@ -1,6 +1,13 @@
 /** Charts made row by row, as the document's words have it, to hold the class against. */
 final class PlainCharts {
     private static final int[][] ADDED_OF = {{0, 1}, {2, 3}, {4, 5}, {6, 7}, {8, 9}, {10, 11}, {12, 13}};
+    private static final int[][] ALL = new int[65536][];
+
+    static {
+        for (int code = 0; code < ALL.length; code++) {
+            ALL[code] = ofCode(code);
+        }
+    }
 
     private static boolean isSingle(int figure, int row) {
         return figure / (1 << row) % 2 == 1;
@@ -53,9 +60,7 @@ final class PlainCharts {
     static int rowsOtherwise(int[] drawing, int[] chart) {
         int rows = 0;
         for (int place = 0; place < 16; place++) {
-            for (int row = 0; row < 4 && drawing[place] >= 0; row++) {
-                rows += isSingle(drawing[place], row) != isSingle(chart[place], row) ? 1 : 0;
-            }
+            rows += drawing[place] < 0 ? 0 : Integer.bitCount(drawing[place] ^ chart[place]);
         }
         return rows;
     }
@@ -74,7 +79,7 @@ final class PlainCharts {
         int[] answers = {0, SandDots.NONE, 65, SandDots.NONE, SandDots.NONE};
         boolean[] canBe = new boolean[16];
         for (int code = 0; code < 65536; code++) {
-            int[] chart = ofCode(code);
+            int[] chart = ALL[code];
             int rows = rowsOtherwise(drawing, chart);
             if (rows == 0) {
                 answers[0]++;
