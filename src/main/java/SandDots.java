@@ -4,7 +4,7 @@ public final class SandDots {
 
     private static final int FINDINGS = -1000010, FAULTS = -1000100;
     private static final int NO_FINDING = 0, NULL = 1, PLACE = 2, KIND = 3, SIZE = 4, STORE = 5;
-    private static final int SHEETS = 8, PLACES = 16, CODES = 65536;
+    private static final int SHEETS = 8, PLACES = 16, CODES = 65536, MOST_STROKES = 0x7fffffff;
 
     private final Sheet[] sheets = new Sheet[SHEETS];
     private final Mender mender = new Mender();
@@ -90,7 +90,7 @@ public final class SandDots {
         if (finding != NO_FINDING) {
             return found(finding);
         }
-        if (!sheets[sheet].areWithin(i, PLACES, 0, Integer.MAX_VALUE)) {
+        if (!sheets[sheet].areWithin(i, PLACES, 0, MOST_STROKES)) {
             return BAD;
         }
         tellChart(sheets[sheet].oddOnes(i));

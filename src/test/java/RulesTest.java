@@ -62,6 +62,11 @@ public final class RulesTest {
         checks.due("14: these, not those, too", Checks.read(x, EVEN), 1);
         checks.due("14: 15 rules", Checks.read(x, EVEN.repeat(15)), 15);
         checks.due("14: four tests", Checks.read(x, "if even 1 and even 2 and same 3 4 and pass 5 say 6;"), 1);
+        for (int place = 0; place < 4; place++) {
+            checks.due("14: one rule, anew", Checks.read(x, "if fig 1 at " + place + " say 1;"), 1);
+            x.chart(1 << 4 * place);
+            checks.due("14: nothing is left of earlier tests", x.holds(0), 1);
+        }
         checks.due("14: no rules in place of one", x.rules(), 0);
         checks.due("14: count of rules", x.count(1), 0);
     }
@@ -73,6 +78,7 @@ public final class RulesTest {
         checks.due("14: four figures", Checks.read(x, "if even 0015 say 9999;"), 1);
         checks.due("14: and five", Checks.read(x, "if even 00001 say 9999;"), -1000108);
         checks.due("14: a letter too many", Checks.read(x, "if evens 1 say 1;"), -1000103);
+        checks.due("14: the first and the last letter", Checks.read(x, "if evenaz 1 say 1;"), -1000103);
         checks.due("14: words joined", Checks.read(x, "ifeven 1 say 1;"), -1000100);
         checks.due("14: a word that ends like another", Checks.read(x, "if xxsame 1 1 say 1;"), -1000103);
         checks.due("14: a long word that ends like another", Checks.read(x, "if aaaaeven 1 say 1;"), -1000103);
