@@ -91,5 +91,17 @@ public final class FaceTest {
             checks.isTrue("the source has no " + matcher.group(), false);
         }
         checks.isTrue("the source was read", code.contains("public final class SandDots"));
+        madeWithTheObject(code);
+    }
+
+    // All runs live in one room, so calls make nothing: fields and the constructor's row of sheets are all there is.
+    private static void madeWithTheObject(String code) {
+        for (String line : code.split("\n")) {
+            if (line.matches(".*\\bnew\\b.*")) {
+                checks.isTrue("made with the object: " + line.trim(),
+                    line.matches("\\s+private (final )?[\\w\\[\\]]+ \\w+ = new .*|\\s+final int\\[\\] items = new .*")
+                        || line.trim().equals("sheets[i] = new Sheet();"));
+            }
+        }
     }
 }

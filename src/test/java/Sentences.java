@@ -24,10 +24,14 @@ final class Sentences {
         }
     }
 
-    // Fences, marks of sections, the face's headings and a promise's own signature say nothing that binds.
+    // Fences and marks of sections say nothing that binds.
     private static String plain(String section) {
-        return section.replaceAll("(?m)^```.*$", " ").replaceAll("(?m)^Ahead of the calls .*$", " ")
-            .replaceAll("={8} \\d", " ").replaceAll("(?m)^`[^`]*`:", " ").replaceAll("\\s+", " ").trim();
+        return section.replaceAll("(?m)^```.*$", " ").replaceAll("={8} \\d", " ").replaceAll("\\s+", " ").trim();
+    }
+
+    /** What the document says in a section, its lines joined. */
+    String text(String section) {
+        return texts.getOrDefault(section, "");
     }
 
     void term(String words) {
@@ -43,7 +47,7 @@ final class Sentences {
         endSentence();
         about = section + ", \"" + words + "\": ";
         hasAnswer = false;
-        int from = texts.getOrDefault(section, "").indexOf(words);
+        int from = text(section).indexOf(words);
         checks.isTrue(about + "the document says so", from >= 0);
         for (int k = 0; from >= 0 && k < words.length(); k++) {
             named.get(section)[from + k] = true;
@@ -67,14 +71,17 @@ final class Sentences {
         endSentence();
         int promises = 0;
         for (String section : texts.keySet()) {
-            if (section.equals(TERMS) || section.startsWith("Promise ")) {
-                promises += section.equals(TERMS) ? 0 : 1;
-                String missed = notNamed(section);
-                checks.isTrue(section + ": words that no test names: " + missed, missed.isEmpty());
-            }
+            promises += section.startsWith("Promise ") ? 1 : 0;
+            String missed = bindsNothing(section) ? "" : notNamed(section);
+            checks.isTrue(section + ": words that no test names: " + missed, missed.isEmpty());
         }
         checks.due("promises in the document", promises, 26);
         checks.end();
+    }
+
+    // The document's title is a section, too, of no words.
+    private static boolean bindsNothing(String section) {
+        return section.equals("Not promised") || section.startsWith("#");
     }
 
     private String notNamed(String section) {
